@@ -414,7 +414,7 @@ public final class SixDays {
         private final int[] groupOf = new int[MAX_PEOPLE];
         private final int[] groupOfParty = new int[PARTIES];
         // Made by the first DINING alone: most objects never dine, and its tables are wide.
-        private Seating seating = null;
+        private Seating latestSeating = null;
 
         Dining() {
             Arrays.fill(wishOf, NONE);
@@ -456,35 +456,42 @@ public final class SixDays {
             if (!isLeg(leg) || !isClass(cls)) {
                 return WRONG_NUMBER;
             }
-            if (seating == null) {
-                seating = new Seating();
-            }
-            if (!gatherGroups(ship, leg, cls)) {
+            Seating seating = readySeating();
+            if (!gatherGroups(seating, ship, leg, cls)) {
                 return NO_ROOM;
             }
             int first = cls * SITTINGS;
-            int dining = seating.solve(seatsOf[first], seatsOf[first + 1], seatsOf[first + 2]);
+            int people = seating.solve(seatsOf[first], seatsOf[first + 1], seatsOf[first + 2]);
             for (int p = 0; p < ship.people; p++) {
                 if (ship.classOf(p) == cls) {
                     kept[leg * MAX_PEOPLE + p] = seating.sittingOfGroup(groupOf[p]);
                 }
             }
-            return dining;
+            return people;
         }
 
-        private boolean gatherGroups(Ship ship, int leg, int cls) {
+        private Seating readySeating() {
+            if (latestSeating == null) {
+                latestSeating = new Seating();
+            }
+            return latestSeating;
+        }
+
+        private boolean gatherGroups(Seating seating, Ship ship, int leg, int cls) {
             Arrays.fill(groupOf, NONE);
             Arrays.fill(groupOfParty, NONE);
             seating.groups = 0;
             for (int p = 0; p < ship.people; p++) {
-                if (ship.classOf(p) == cls && ship.isAboard(p, leg) && !joinGroup(p, ship.partyOf(p))) {
+                if (ship.classOf(p) == cls && ship.isAboard(p, leg)
+                    && !joinGroup(seating, p, ship.partyOf(p))) {
                     return false;
                 }
             }
             return true;
         }
 
-        private boolean joinGroup(int person, int party) {
+        // People come by their numbers: so the one that opens a GROUP is its lowest, and tells its WISH.
+        private boolean joinGroup(Seating seating, int person, int party) {
             int group = party == NONE ? NONE : groupOfParty[party];
             if (group == NONE) {
                 group = seating.open(wishOf[person]);
@@ -605,7 +612,7 @@ public final class SixDays {
 
     /** BURN, STORM and the RUN made latest. */
     private static final class Engine {
-        private final int[] burnOf = new int[MAX_KNOTS + 1];
+        final int[] burnOf = new int[MAX_KNOTS + 1];
         private final int[] stormOf = new int[WATCHES];
         private final int[] knotsOf = new int[WATCHES];
         private final int[] madeBy = new int[WATCHES];
@@ -613,7 +620,7 @@ public final class SixDays {
         private int runTo = NONE;
         private int arrival = NONE;
         // Made by the first RUN alone: its tables are the widest of all.
-        private Course course = null;
+        private Course latestCourse = null;
 
         Engine() {
             for (int k = 0; k <= MAX_KNOTS; k++) {
@@ -653,13 +660,11 @@ public final class SixDays {
             if (milesOfAll(from, to, b) < miles) {
                 return CANNOT_BE;
             }
-            if (course == null) {
-                course = new Course();
-            }
+            Course course = readyCourse();
             course.solve(this, miles, from, to, a, b);
             runFrom = from;
             runTo = to;
-            return keepRun(miles, a);
+            return keepRun(course, miles, a);
         }
 
         int tellRun(int watch, int what) {
@@ -680,13 +685,20 @@ public final class SixDays {
             return sum;
         }
 
-        private int keepRun(int miles, int a) {
+        private Course readyCourse() {
+            if (latestCourse == null) {
+                latestCourse = new Course();
+            }
+            return latestCourse;
+        }
+
+        private int keepRun(Course course, int miles, int a) {
             int tons = 0;
             int made = 0;
             arrival = NONE;
             for (int w = runFrom; w <= runTo; w++) {
-                int knots = made < miles ? course.knotsAt(w, miles - made) : a;
                 boolean ahead = made < miles;
+                int knots = ahead ? course.knotsAt(w, miles - made) : a;
                 made += milesOf(w, knots);
                 if (ahead && made >= miles) {
                     arrival = w;
@@ -706,6 +718,7 @@ public final class SixDays {
     private static final class Course {
         // Tons outweigh every WATCH of arrival there can be.
         private static final int TON_WEIGHT = 64;
+        private static final int ABOVE_ALL = (MAX_TONS * WATCHES + 1) * TON_WEIGHT;
         private static final int KNOT_BITS = 5;
         private static final long KNOT_MASK = 31L;
         private static final int KNOTS_IN_LONG = 12;
@@ -743,7 +756,7 @@ public final class SixDays {
             if (!isWatch(watch) || !within(rest, 0, MAX_RUN)) {
                 return lowest;
             }
-            return (int) (chosen[cell(watch, rest)] >>> shift(watch) & KNOT_MASK);
+            return (int) (chosen[cellOf(watch, rest)] >>> shiftOf(watch) & KNOT_MASK);
         }
 
         private void fillMiles(Engine engine, int watch) {
@@ -753,11 +766,11 @@ public final class SixDays {
         }
 
         private void choose(Engine engine, int watch, int rest, int tonsBehind, int mostBehind) {
-            int best = Integer.MAX_VALUE;
+            int best = ABOVE_ALL;
             int bestKnots = lowest;
             for (int k = lowest; k <= highest; k++) {
                 int still = rest - milesAt[k];
-                if (still <= mostBehind || still <= 0) {
+                if (still <= mostBehind) {
                     int behind = still <= 0 ? tonsBehind * TON_WEIGHT + watch : worth[still];
                     int sum = engine.burnOf[k] * TON_WEIGHT + behind;
                     if (sum < best) {
@@ -767,16 +780,16 @@ public final class SixDays {
                 }
             }
             worth[rest] = best;
-            int cell = cell(watch, rest);
-            long others = chosen[cell] & ~(KNOT_MASK << shift(watch));
-            chosen[cell] = others | (long) bestKnots << shift(watch);
+            int cell = cellOf(watch, rest);
+            long others = chosen[cell] & ~(KNOT_MASK << shiftOf(watch));
+            chosen[cell] = others | (long) bestKnots << shiftOf(watch);
         }
 
-        private static int cell(int watch, int rest) {
+        private static int cellOf(int watch, int rest) {
             return watch / KNOTS_IN_LONG * (MAX_RUN + 1) + rest;
         }
 
-        private static int shift(int watch) {
+        private static int shiftOf(int watch) {
             return watch % KNOTS_IN_LONG * KNOT_BITS;
         }
     }
@@ -873,11 +886,11 @@ public final class SixDays {
         }
 
         private static boolean isLetter(int b) {
-            return within(b, 'a', 'z');
+            return b >= 'a' && b <= 'z';
         }
 
         private static boolean isDigit(int b) {
-            return within(b, '0', '9');
+            return b >= '0' && b <= '9';
         }
     }
 

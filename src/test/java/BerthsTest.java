@@ -1,3 +1,7 @@
+import java.util.ArrayList;
+import java.util.List;
+import java.util.Random;
+
 /** Promises 1 to 8: a new object, cabin, person, book, cancel, berth, who, aboard. */
 public final class BerthsTest {
     private static final int LOW = Integer.MIN_VALUE;
@@ -10,11 +14,14 @@ public final class BerthsTest {
         people();
         lowestBerth();
         partyCabinFirst();
+        partyAheadOfLowerCabin();
         partyLegByLeg();
+        fourBerths();
         aloneTogether();
         classesApart();
         cancelled();
         wrongBerths();
+        drawn();
         CHECK.finish();
     }
 
@@ -136,6 +143,49 @@ public final class BerthsTest {
         due("party 2 with nobody again", x.book(4), 0);
     }
 
+    private static void partyAheadOfLowerCabin() {
+        SixDays x = new SixDays();
+        x.cabin(0, 2);
+        x.cabin(0, 3);
+        x.person(0, 0, 7, 3);
+        x.person(0, 2, 4, 2);
+        x.person(0, 0, 2, 2);
+        x.person(0, 4, 7, 2);
+        x.person(0, 0, 3, 2);
+        x.person(0, 3, 7, 2);
+        due("party 3 into cabin 0", x.book(0), 0);
+        due("party 2 into cabin 1", x.book(1), 4);
+        due("cabin 0 is empty again", x.cancel(0), 0);
+        due("one of party 2 whose way ends where the first's begins", x.book(2), 0);
+        due("one of party 2 whose way begins where the first's ends", x.book(3), 0);
+        due("both cabins have one of party 2: the lowest", x.book(4), 1);
+        due("cancel(2)", x.cancel(2), 0);
+        due("cancel(3)", x.cancel(3), 0);
+        due("cancel(4)", x.cancel(4), 0);
+        due("with the party, though cabin 0 is empty", x.book(4), 5);
+        due("with the party once more", x.book(5), 5);
+    }
+
+    private static void fourBerths() {
+        SixDays x = new SixDays();
+        x.cabin(1, 4);
+        x.cabin(1, 4);
+        for (int p = 0; p < 8; p++) {
+            x.person(1, 0, 7, -1);
+            due("book(" + p + ")", x.book(p), p);
+        }
+        for (int p = 0; p < 8; p++) {
+            due("who has " + p, x.who(p / 4, p % 4, 6), p);
+        }
+        due("who(0, 4, 6)", x.who(0, 4, 6), -1);
+        due("who(0, 5, 6)", x.who(0, 5, 6), -1);
+        due("who(0, -1, 6)", x.who(0, -1, 6), -1);
+        due("who(1, -1, 6)", x.who(1, -1, 6), -1);
+        due("who(0, 0, 7)", x.who(0, 0, 7), -1);
+        due("who(0, 1, -1)", x.who(0, 1, -1), -1);
+        due("aboard(1, 6)", x.aboard(1, 6), 8);
+    }
+
     private static void partyLegByLeg() {
         SixDays x = new SixDays();
         x.cabin(0, 4);
@@ -223,5 +273,70 @@ public final class BerthsTest {
             due("aboard(" + l[0] + ", " + l[1] + ")", x.aboard(l[0], l[1]), -1);
         }
         due("who(0, 0, 0)", x.who(0, 0, 0), 0);
+    }
+
+    /** Against the words of the document told once more, plainly, for ships drawn by a fixed seed. */
+    private static void drawn() {
+        Random random = new Random(8);
+        for (int round = 0; round < 100; round++) {
+            SixDays x = new SixDays();
+            List<int[]> cabins = new ArrayList<>();
+            List<int[]> people = new ArrayList<>();
+            int classes = 1 + random.nextInt(3);
+            int parties = 1 + random.nextInt(5);
+            for (int i = 0; i < 3 + random.nextInt(18) && i < 20; i++) {
+                int[] cabin = {random.nextInt(classes), 1 + random.nextInt(4)};
+                cabins.add(cabin);
+                x.cabin(cabin[0], cabin[1]);
+            }
+            for (int i = 0; i < 60; i++) {
+                int from = random.nextInt(7);
+                int[] person = {random.nextInt(classes), from, from + 1 + random.nextInt(7 - from),
+                    random.nextInt(parties + 1) - 1, -1};
+                people.add(person);
+                x.person(person[0], person[1], person[2], person[3]);
+            }
+            for (int i = 0; i < 300; i++) {
+                int p = random.nextInt(60);
+                int[] person = people.get(p);
+                if (random.nextInt(4) == 0) {
+                    due("round " + round + ": cancel(" + p + ")", x.cancel(p), person[4] < 0 ? -3 : 0);
+                    person[4] = -1;
+                } else {
+                    int berth = person[4] >= 0 ? -3 : plainBerth(cabins, people, person);
+                    due("round " + round + ": book(" + p + ")", x.book(p), berth);
+                    person[4] = berth >= 0 ? berth : person[4];
+                }
+                due("round " + round + ": berth(" + p + ")", x.berth(p), person[4]);
+            }
+        }
+    }
+
+    private static int plainBerth(List<int[]> cabins, List<int[]> people, int[] person) {
+        int first = -3;
+        for (int c = 0; c < cabins.size(); c++) {
+            int free = 0;
+            boolean suits = cabins.get(c)[0] == person[0];
+            boolean party = false;
+            boolean[] taken = new boolean[4];
+            for (int[] other : people) {
+                boolean meets = other[4] / 4 == c && other[4] >= 0 && other[1] < person[2] && person[1] < other[2];
+                if (meets) {
+                    taken[other[4] % 4] = true;
+                    suits &= other[3] == person[3];
+                    party |= other[3] == person[3] && person[3] != -1;
+                }
+            }
+            while (free < 4 && taken[free]) {
+                free++;
+            }
+            if (suits && free < cabins.get(c)[1]) {
+                if (party) {
+                    return c * 4 + free;
+                }
+                first = first == -3 ? c * 4 + free : first;
+            }
+        }
+        return first;
     }
 }

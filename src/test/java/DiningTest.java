@@ -18,6 +18,8 @@ public final class DiningTest {
         tooManyGroups();
         keptAsMade();
         legsAndClassesApart();
+        lastPerson();
+        fullShip();
         wrongNumbers();
         allRows();
         CHECK.finish();
@@ -190,6 +192,53 @@ public final class DiningTest {
         due("class 0 as before", x.sitting(4, 0), 0);
         due("another leg", x.sitting(5, 0), -1);
         due("class 2, nobody", x.dine(4, 2), 0);
+        x.seats(0, 0, 0, 0);
+        x.seats(1, 0, 1, 0);
+        due("class 1 has seats at sitting 1", x.dine(4, 1), 1);
+        due("sitting 1 of class 1", x.sitting(4, 1), 1);
+        due("class 0 has none", x.dine(4, 0), 0);
+    }
+
+    private static void lastPerson() {
+        SixDays x = new SixDays();
+        x.cabin(2, 1);
+        for (int p = 0; p < 100; p++) {
+            x.person(2, 0, 7, -1);
+        }
+        due("book(99)", x.book(99), 0);
+        due("wish(99, 2)", x.wish(99, 2), -1);
+        x.seats(2, 100, 100, 100);
+        for (int leg = 0; leg < 7; leg++) {
+            due("dine(" + leg + ", 2)", x.dine(leg, 2), 1);
+            due("sitting(" + leg + ", 99)", x.sitting(leg, 99), 2);
+            due("sitting(" + leg + ", 100)", x.sitting(leg, 100), -1);
+        }
+        due("wish(99, -1)", x.wish(99, -1), 2);
+    }
+
+    /** Ten groups on eighty berths, where SEATS are full to the last, or more than needed. */
+    private static void fullShip() {
+        int[] parties = new int[80];
+        for (int p = 0; p < 80; p++) {
+            parties[p] = p % 10;
+        }
+        SixDays x = shipOf(parties);
+        due("all have berths", x.count(2), 80);
+        x.seats(0, 100, 100, 100);
+        for (int g = 0; g < 10; g++) {
+            x.wish(g, g % 4 == 3 ? -1 : g % 4);
+        }
+        due("all dine", x.dine(0, 0), 80);
+        for (int p = 0; p < 80; p++) {
+            int wish = p % 10 % 4;
+            due("sitting of " + p, x.sitting(0, p), wish == 3 ? 0 : wish);
+        }
+        x.seats(0, 31, 31, 18);
+        due("eight groups of ten dine", x.dine(0, 0), 64);
+        x.seats(0, 7, 7, 7);
+        due("none fits", x.dine(0, 0), 0);
+        x.seats(0, 100, 0, 0);
+        due("all at one sitting", x.dine(0, 0), 80);
     }
 
     private static void wrongNumbers() {

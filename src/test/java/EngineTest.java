@@ -1,3 +1,4 @@
+import java.util.Arrays;
 import java.util.Random;
 
 /** Promises 13 to 17: burn, storm, miles, run, steamed. */
@@ -19,6 +20,7 @@ public final class EngineTest {
         wrongRuns();
         wholeCrossing();
         allWays();
+        longRuns();
         CHECK.finish();
     }
 
@@ -182,6 +184,78 @@ public final class EngineTest {
         due("made in all", x.steamed(35, 1), 3000);
         due("the most of all", x.run(3000, 0, 35, 24, 24), 8640);
         due("made by then", x.steamed(35, 1), 3456);
+    }
+
+    /** Against a plain table of all MILES at all WATCHES, for long runs drawn by a fixed seed. */
+    private static void longRuns() {
+        Random random = new Random(17);
+        for (int round = 0; round < 120; round++) {
+            SixDays x = new SixDays();
+            int[] burn = new int[25];
+            for (int k = 0; k < 25; k++) {
+                burn[k] = random.nextInt(round % 2 == 0 ? 1001 : 1 + 12 * k);
+                x.burn(k, burn[k]);
+            }
+            for (int w = 0; w < 36; w++) {
+                x.storm(w, w, random.nextInt(2) * random.nextInt(1 + round % 101));
+            }
+            int from = random.nextInt(20);
+            int to = from + 12 + random.nextInt(36 - from - 12);
+            int a = random.nextInt(5);
+            int b = 25 - 1 - random.nextInt(10);
+            int most = 0;
+            for (int w = from; w <= to; w++) {
+                most += x.miles(w, b);
+            }
+            int miles = Math.min(3000, random.nextInt(most + 1));
+            if (round == 0) {
+                x = new SixDays();
+                burn = new int[]{0, 10, 20, 30, 40, 50, 60, 70, 80, 90, 100, 110, 120, 130, 140, 150, 160, 170, 180,
+                    190, 200, 210, 220, 230, 240};
+                from = 0;
+                to = 35;
+                miles = 3000;
+                b = 24;
+            }
+            plainRun(x, burn, new int[]{miles, from, to, a, b}, "long round " + round);
+        }
+    }
+
+    private static void plainRun(SixDays x, int[] burn, int[] run, String name) {
+        int miles = run[0];
+        int from = run[1];
+        int to = run[2];
+        int[][] tons = new int[to - from + 2][miles + 1];
+        int[][] there = new int[to - from + 2][miles + 1];
+        int[][] knots = new int[to - from + 2][miles + 1];
+        int never = 1000000;
+        Arrays.fill(tons[to - from + 1], never);
+        tons[to - from + 1][0] = 0;
+        for (int w = to; w >= from; w--) {
+            int i = w - from;
+            for (int rest = 0; rest <= miles; rest++) {
+                tons[i][rest] = never;
+                for (int k = run[3]; k <= (rest == 0 ? run[3] : run[4]); k++) {
+                    int still = Math.max(0, rest - x.miles(w, k));
+                    int sum = tons[i + 1][still] >= never ? never : burn[k] + tons[i + 1][still];
+                    int arrival = rest == 0 ? -1 : still == 0 ? w : there[i + 1][still];
+                    if (sum < tons[i][rest] || sum < never && sum == tons[i][rest] && arrival < there[i][rest]) {
+                        tons[i][rest] = sum;
+                        there[i][rest] = arrival;
+                        knots[i][rest] = k;
+                    }
+                }
+            }
+        }
+        due(name + ": tons", x.run(miles, from, to, run[3], run[4]), tons[0][miles] >= never ? -6 : tons[0][miles]);
+        due(name + ": there", x.steamed(-1, 0), there[0][miles]);
+        int made = 0;
+        for (int w = from; w <= to; w++) {
+            int k = knots[w - from][Math.max(0, miles - made)];
+            made += x.miles(w, k);
+            due(name + ": knots of " + w, x.steamed(w, 0), k);
+            due(name + ": made by " + w, x.steamed(w, 1), made);
+        }
     }
 
     private static int bestTons;

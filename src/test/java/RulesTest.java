@@ -105,6 +105,12 @@ public final class RulesTest {
         fails(x, "pool  ", 6);
         fails(x, "poolbelow", 0);
         fails(x, "pools below", 0);
+        fails(x, "poolz below", 0);
+        fails(x, "poola below", 0);
+        fails(x, "pool{below", 4);
+        fails(x, "pool`below", 4);
+        fails(x, "seamen 1/", 8);
+        fails(x, "seamen 1:", 8);
         fails(x, "poo below", 0);
         fails(x, "Pool below", 0);
         fails(x, "pool Below", 5);
