@@ -8,6 +8,7 @@ public final class PoolsTest {
 
     public static void main(String[] args) {
         bets();
+        withoutRules();
         days();
         kinds();
         parted();
@@ -58,6 +59,18 @@ public final class PoolsTest {
         due("status()", x.status(), -5);
         due("a bet of nobody without room", x.bet(0, 1, 0, 0, 0), -2);
         due("count(4)", x.count(4), 100);
+    }
+
+    private static void withoutRules() {
+        SixDays x = withPerson();
+        x.bet(0, 0, 11, 0, 35);
+        x.bet(0, 0, 12, 10000, 35);
+        x.bet(0, 0, 9, 5, 0);
+        x.day(0, 10);
+        pool(x, 0, 10005, 0, 10005, 2, 1);
+        due("a stake of 0 in the last watch", x.wins(0), 5002);
+        due("below alike", x.wins(2), 5002);
+        due("farther", x.wins(1), 0);
     }
 
     private static void days() {

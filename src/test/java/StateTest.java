@@ -8,6 +8,7 @@ public final class StateTest {
         counts();
         statusOfThoseRefused();
         statusStays();
+        fullObject();
         anyCalls();
         CHECK.finish();
     }
@@ -123,6 +124,47 @@ public final class StateTest {
         x.count(9);
         x.status();
         due("those that can't be refused leave status()", x.status(), -2);
+    }
+
+    /** All that there can be at once, within 512 calls. */
+    private static void fullObject() {
+        SixDays x = new SixDays();
+        for (int i = 0; i < 20; i++) {
+            x.cabin(0, 4);
+        }
+        for (int i = 0; i < 100; i++) {
+            x.person(0, 0, 7, i < 20 ? i / 2 : 29);
+        }
+        for (int i = 0; i < 100; i++) {
+            x.bet(5, 99, 1000, 10000, 35);
+        }
+        for (int i = 0; i < 40; i++) {
+            x.trunk(99);
+        }
+        for (int i = 0; i < 200; i++) {
+            x.see(39, 99, 35, 35);
+        }
+        due("aboard(0, 6)", x.aboard(0, 6), 0);
+        due("book(99)", x.book(99), 0);
+        due("book(98)", x.book(98), 1);
+        due("aboard(0, 0)", x.aboard(0, 0), 2);
+        due("seats", x.seats(0, 0, 0, 2), 0);
+        due("dine(6, 0)", x.dine(6, 0), 2);
+        due("sitting(6, 99)", x.sitting(6, 99), 2);
+        due("ill(99, 6)", x.ill(99, 6), 0);
+        due("met(98)", x.met(98), 1);
+        due("met(99)", x.met(99), 0);
+        due("met(100)", x.met(100), -1);
+        due("wins(99)", x.wins(99), 0);
+        for (int p = 0; p < 6; p++) {
+            x.day(p, 1000);
+        }
+        due("wins(99) of a day that is known", x.wins(99), 10000);
+        due("wins(100)", x.wins(100), 0);
+        due("pool(5, 3)", x.pool(5, 3), 100);
+        due("where(39, 35, 35)", x.where(39, 35, 35), 99);
+        due("where(40, 35, 35)", x.where(40, 35, 35), -1);
+        due("who(19, 3, 6)", x.who(19, 3, 6), -1);
     }
 
     /** No call may throw or fail to end, whatever it is given. */
