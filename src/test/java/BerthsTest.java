@@ -278,7 +278,7 @@ public final class BerthsTest {
     /** Against the words of the document told once more, plainly, for ships drawn by a fixed seed. */
     private static void drawn() {
         Random random = new Random(8);
-        for (int round = 0; round < 100; round++) {
+        for (int round = 0; round < 150; round++) {
             SixDays x = new SixDays();
             List<int[]> cabins = new ArrayList<>();
             List<int[]> people = new ArrayList<>();
@@ -296,7 +296,7 @@ public final class BerthsTest {
                 people.add(person);
                 x.person(person[0], person[1], person[2], person[3]);
             }
-            for (int i = 0; i < 300; i++) {
+            for (int i = 0; i < 200; i++) {
                 int p = random.nextInt(60);
                 int[] person = people.get(p);
                 if (random.nextInt(4) == 0) {

@@ -186,6 +186,10 @@ public final class EngineTest {
         due("made by then", x.steamed(35, 1), 3456);
     }
 
+    private static int miles(int[] storm, int watch, int knots) {
+        return 4 * knots * (100 - storm[watch]) / 100;
+    }
+
     /** Against a plain table of all MILES at all WATCHES, for long runs drawn by a fixed seed. */
     private static void longRuns() {
         Random random = new Random(17);
@@ -196,8 +200,10 @@ public final class EngineTest {
                 burn[k] = random.nextInt(round % 2 == 0 ? 1001 : 1 + 12 * k);
                 x.burn(k, burn[k]);
             }
+            int[] storm = new int[36];
             for (int w = 0; w < 36; w++) {
-                x.storm(w, w, random.nextInt(2) * random.nextInt(1 + round % 101));
+                storm[w] = random.nextInt(2) * random.nextInt(1 + round % 101);
+                x.storm(w, w, storm[w]);
             }
             int from = random.nextInt(20);
             int to = from + 12 + random.nextInt(36 - from - 12);
@@ -205,11 +211,12 @@ public final class EngineTest {
             int b = 25 - 1 - random.nextInt(10);
             int most = 0;
             for (int w = from; w <= to; w++) {
-                most += x.miles(w, b);
+                most += miles(storm, w, b);
             }
             int miles = Math.min(3000, random.nextInt(most + 1));
             if (round == 0) {
                 x = new SixDays();
+                storm = new int[36];
                 burn = new int[]{0, 10, 20, 30, 40, 50, 60, 70, 80, 90, 100, 110, 120, 130, 140, 150, 160, 170, 180,
                     190, 200, 210, 220, 230, 240};
                 from = 0;
@@ -217,11 +224,11 @@ public final class EngineTest {
                 miles = 3000;
                 b = 24;
             }
-            plainRun(x, burn, new int[]{miles, from, to, a, b}, "long round " + round);
+            plainRun(x, burn, storm, new int[]{miles, from, to, a, b}, "long round " + round);
         }
     }
 
-    private static void plainRun(SixDays x, int[] burn, int[] run, String name) {
+    private static void plainRun(SixDays x, int[] burn, int[] storm, int[] run, String name) {
         int miles = run[0];
         int from = run[1];
         int to = run[2];
@@ -236,7 +243,7 @@ public final class EngineTest {
             for (int rest = 0; rest <= miles; rest++) {
                 tons[i][rest] = never;
                 for (int k = run[3]; k <= (rest == 0 ? run[3] : run[4]); k++) {
-                    int still = Math.max(0, rest - x.miles(w, k));
+                    int still = Math.max(0, rest - miles(storm, w, k));
                     int sum = tons[i + 1][still] >= never ? never : burn[k] + tons[i + 1][still];
                     int arrival = rest == 0 ? -1 : still == 0 ? w : there[i + 1][still];
                     if (sum < tons[i][rest] || sum < never && sum == tons[i][rest] && arrival < there[i][rest]) {
@@ -252,7 +259,7 @@ public final class EngineTest {
         int made = 0;
         for (int w = from; w <= to; w++) {
             int k = knots[w - from][Math.max(0, miles - made)];
-            made += x.miles(w, k);
+            made += miles(storm, w, k);
             due(name + ": knots of " + w, x.steamed(w, 0), k);
             due(name + ": made by " + w, x.steamed(w, 1), made);
         }
@@ -277,22 +284,24 @@ public final class EngineTest {
             }
             int n = 2 + random.nextInt(4);
             int from = random.nextInt(36 - n + 1);
+            int[] storm = new int[36];
             for (int i = 0; i < n; i++) {
-                x.storm(from + i, from + i, random.nextInt(3) == 0 ? random.nextInt(101) : 0);
+                storm[from + i] = random.nextInt(3) == 0 ? random.nextInt(101) : 0;
+                x.storm(from + i, from + i, storm[from + i]);
             }
             int a = random.nextInt(22);
             int b = Math.min(24, a + random.nextInt(4));
             int miles = random.nextInt(4 * n * (b + 1));
             bestRow = null;
             bestTons = Integer.MAX_VALUE;
-            tryAll(x, burn, new int[]{miles, from, a, b}, new int[n], 0);
+            tryAll(storm, burn, new int[]{miles, from, a, b}, new int[n], 0);
             int tons = x.run(miles, from, from + n - 1, a, b);
             due("round " + round + ": tons", tons, bestRow == null ? -6 : bestTons);
             if (bestRow != null) {
                 due("round " + round + ": there", x.steamed(-1, 0), bestArrival);
                 int made = 0;
                 for (int i = 0; i < n; i++) {
-                    made += x.miles(from + i, bestRow[i]);
+                    made += miles(storm, from + i, bestRow[i]);
                     due("round " + round + ": knots " + i, x.steamed(from + i, 0), bestRow[i]);
                     due("round " + round + ": made " + i, x.steamed(from + i, 1), made);
                 }
@@ -300,11 +309,11 @@ public final class EngineTest {
         }
     }
 
-    private static void tryAll(SixDays x, int[] burn, int[] run, int[] row, int at) {
+    private static void tryAll(int[] storm, int[] burn, int[] run, int[] row, int at) {
         if (at < row.length) {
             for (int k = run[2]; k <= run[3]; k++) {
                 row[at] = k;
-                tryAll(x, burn, run, row, at + 1);
+                tryAll(storm, burn, run, row, at + 1);
             }
             return;
         }
@@ -316,7 +325,7 @@ public final class EngineTest {
                 return;
             }
             boolean ahead = made < run[0];
-            made += x.miles(run[1] + i, row[i]);
+            made += miles(storm, run[1] + i, row[i]);
             tons += burn[row[i]];
             arrival = ahead && made >= run[0] ? run[1] + i : arrival;
         }

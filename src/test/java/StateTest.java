@@ -173,7 +173,8 @@ public final class StateTest {
         for (int round = 0; round < 300; round++) {
             SixDays x = new SixDays();
             int wide = 2 + random.nextInt(30);
-            for (int i = 0; i < 512; i++) {
+            // A text takes three calls more.
+            for (int i = 0; i < 400; i++) {
                 int answer = anyCall(x, random, wide);
                 due("an answer below all codes", Math.min(answer, -6), -6);
             }
